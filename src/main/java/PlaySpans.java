@@ -637,7 +637,7 @@ public final class PlaySpans {
             return h == 0 ? own > its : own < its;
         }
 
-        /** The EVENT in which HAND h played last, when EVENT i is played by the STATE at an index. */
+        /** The EVENT in which HAND h played last, once EVENT i was played by the STATE at at. */
         private int lastPlayed(int i, int at, int h) {
             int playing = table.first[at];
             return playing == BOTH || playing == h ? i : table.second[at];
@@ -788,6 +788,7 @@ public final class PlaySpans {
         private final int[] chainSums = new int[2 * STRIDE];
         private int[] current;
         private int[] coming;
+        private int top = 0;
 
         Counter(Score score, States table, Instrument instrument) {
             this.score = score;
@@ -812,11 +813,11 @@ public final class PlaySpans {
                 return;
             }
             for (int k = 0; k < table.count[last]; k++) {
-                addRow(current, k * STRIDE, chainSums, hand * STRIDE, most);
+                addRow(current, k * STRIDE, chainSums, hand * STRIDE, Math.min(top, most));
             }
         }
 
-        /** How many pairs of a row of one CHAIN and a row of the other cost at most most together. */
+        /** How many pairs of rows, one of each CHAIN, cost no more than most together. */
         int countPairs(int most) {
             long all = 0;
             int others = 0;
@@ -828,33 +829,40 @@ public final class PlaySpans {
         }
 
         private void countEvent(int i, int most) {
+            int highest = 0;
             for (int k = 0; k < table.count[i]; k++) {
                 clearRow(coming, k * STRIDE, most);
                 if (score.allows(i, k)) {
-                    countState(i, k, most);
+                    highest = Math.max(highest, countState(i, k, most));
                 }
             }
             int[] swap = current;
             current = coming;
             coming = swap;
+            top = highest;
         }
 
-        private void countState(int i, int k, int most) {
+        /** Counts the rows that end in STATE k of EVENT i; none of them costs more than it answers. */
+        private int countState(int i, int k, int most) {
             int own = table.cost[table.indexOf(i, k)];
             int last = score.before[i];
             if (last < 0) {
                 if (own <= most) {
                     coming[k * STRIDE + own] = 1;
                 }
-                return;
+                return own;
             }
+            int highest = 0;
             for (int from = 0; from < table.count[last]; from++) {
                 int stepping = instrument.stepCost(last, from, i, k);
                 if (stepping != NONE) {
                     int more = own + stepping;
-                    addRow(current, from * STRIDE, coming, k * STRIDE + more, most - more);
+                    int end = Math.min(top, most - more);
+                    addRow(current, from * STRIDE, coming, k * STRIDE + more, end);
+                    highest = Math.max(highest, more + end);
                 }
             }
+            return highest;
         }
 
         private static void clearRow(int[] row, int at, int last) {
