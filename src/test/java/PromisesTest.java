@@ -25,8 +25,9 @@ public final class PromisesTest {
 
     private static void addFor(PlaySpans x, int hand, int time, int length, int... notes) {
         int n = notes.length;
+        int number = x.told(0);
         due("adding an event at " + time, x.event(hand, time, length, notes[0], n > 1 ? notes[1] : -1,
-                n > 2 ? notes[2] : -1), x.told(0) - 1);
+                n > 2 ? notes[2] : -1), number);
     }
 
     /** Each STATE is told as {PRICE, what 1, what 2}. */
@@ -89,14 +90,15 @@ public final class PromisesTest {
             PlaySpans y = new PlaySpans(instrument);
             int most = new int[] {3, 3, 1, 1, 2}[instrument];
             due("2: three notes on " + instrument, y.event(0, 0, 1, 60, 64, 67), most == 3 ? 0 : BAD);
-            due("2: two notes on " + instrument, y.event(0, 2000, 1, 60, 64, -1), most > 1 ? y.told(0) - 1 : BAD);
-            due("2: one note on " + instrument, y.event(0, 4000, 1, 60, -1, -1), y.told(0) - 1);
+            due("2: two notes on " + instrument, y.event(0, 2000, 1, 60, 64, -1), most > 1 ? most - 2 : BAD);
+            due("2: one note on " + instrument, y.event(0, 4000, 1, 60, -1, -1), most - 1);
             due("2: right hand on " + instrument, y.event(1, 6000, 1, 60, -1, -1),
                     instrument == KEYBOARD ? 3 : BAD);
         }
         PlaySpans edges = new PlaySpans(KEYBOARD);
         add(edges, 0, 1000, 0, 1, 127);
-        add(edges, 100000, 1, 0);
+        add(edges, 1, 1, 126, 127);
+        add(edges, 100000, 1, 127);
     }
 
     private static void eventNot() {
@@ -159,6 +161,14 @@ public final class PromisesTest {
         due("3", x.drop(), 0);
         due("3: none left", x.drop(), NONE);
         due("3: price of none", x.price(), 0);
+        PlaySpans y = new PlaySpans(SLIDE);
+        add(y, 0, 10, 58);
+        add(y, 10, 10, 40);
+        due("3: too far", y.price() * 10 + y.stuck(), NONE * 10 + 1);
+        due("3: too far", y.way(0), NONE);
+        y.drop();
+        due("3: not too far any more", y.price() * 10 + y.stuck(), NONE);
+        due("3: not too far any more", y.way(0), 0);
     }
 
     private static void bound() {
@@ -562,6 +572,35 @@ public final class PromisesTest {
         }
     }
 
+    /** As many STATES as there can be, and PRICES far above those that are asked for. */
+    private static void widest() {
+        PlaySpans strings = new PlaySpans(STRINGS);
+        PlaySpans sticks = new PlaySpans(STICKS);
+        PlaySpans drums = new PlaySpans(STICKS);
+        PlaySpans wind = new PlaySpans(WIND);
+        strings.bound(MOVE, 0);
+        drums.bound(MOVE, 0);
+        wind.bound(LUNG, 2000);
+        for (int s = 6; s < 10; s++) {
+            strings.bound(s, 60);
+        }
+        for (int i = 0; i < 40; i++) {
+            add(strings, i, 1, 60);
+            add(sticks, i, 1, 60);
+            add(drums, i, 1, i % 2 == 0 ? 0 : 127);
+            add(wind, 100 * i, 50, 60);
+        }
+        due("12: strings that stay", strings.ways(0), 48);
+        due("12: strings", strings.ways(300), 1000000000);
+        due("12: sticks in turn", sticks.ways(0), 2);
+        due("12: sticks with one repeated", sticks.ways(2), 80);
+        due("12: sticks", sticks.ways(300), 1000000000);
+        due("9: drums", drums.price(), 0);
+        due("12: only the left hand low, the right one high", drums.ways(0), 1);
+        due("12: wind with two breaths", wind.ways(1), 40);
+        due("12: wind with three breaths", wind.ways(2), 40 + 39 * 38 / 2);
+    }
+
     private static int power(int base, int n) {
         int all = 1;
         for (int i = 0; i < n; i++) {
@@ -628,6 +667,7 @@ public final class PromisesTest {
         twoChains();
         deadEnds();
         manyWays();
+        widest();
         told();
         about();
         System.out.println(asked + " answers looked at, " + wrong + " not as due");
