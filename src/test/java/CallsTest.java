@@ -244,6 +244,56 @@ public final class CallsTest {
         Due.is("LEFT has none", both.step(0, 0, 0), BAD);
     }
 
+    private static void dropAsIfItNeverCame() {
+        Due.sentence("3 The last EVENT goes: all is told as before it came.");
+        // The places: {0, 4}, {2, 5}, {6}.
+        Player x = new Player(SLIDE).add(0, 10, 58);
+        int[][] told = {{0, NONE, 2, 2}, {2, NONE, 0, 4}, {5, NONE, 0, 2}};
+        dueTold(x, told[0]);
+        dueTold(x.add(100, 10, 60), told[1]);
+        dueTold(x.add(120, 10, 40), told[2]);
+        x.drop();
+        dueTold(x, told[1]);
+        x.dueWay("two", 0, 0);
+        x.drop();
+        dueTold(x, told[0]);
+        x.dueWay("one", 0);
+        x.drop();
+        dueTold(x, new int[] {0, NONE, 1, 1});
+        dueTold(x.add(100, 10, 60).add(120, 10, 40), new int[] {4, NONE, 0, 1});
+        x.dueWay("others in their place", 1, 0);
+    }
+
+    private static void dueTold(Player x, int[] want) {
+        Due.is("price", x.price(), want[0]);
+        Due.is("stuck", x.stuck(), want[1]);
+        Due.is("ways(0)", x.ways(0), want[2]);
+        Due.is("ways(300)", x.ways(300), want[3]);
+    }
+
+    private static void dropsItsStates() {
+        Due.sentence("3 The last EVENT goes: its STATES too, when another with fewer comes in its place.");
+        // From place 4 it were in time to 6, from 0 it is not.
+        Player x = new Player(SLIDE).add(0, 10, 58);
+        Due.is("places 0 and 4", x.ways(300), 2);
+        Due.is("price", x.price(), 0);
+        x.drop();
+        x.add(0, 10, 46).add(50, 10, 40);
+        Due.is("place 0", x.states(0), 1);
+        Due.is("no state 1", x.state(0, 1, 1), BAD);
+        Due.is("stuck", x.stuck(), 1);
+        Due.is("price", x.price(), NONE);
+        Due.is("ways", x.ways(300), 0);
+        Player y = new Player(SLIDE).add(0, 10, 58).add(50, 10, 40);
+        Due.is("from place 4", y.price(), 4);
+        y.with(Player.BASE, 33);
+        Due.is("places 3 and 6, and 5: another BASE", y.price(), 3);
+        y.with(Player.BASE, 28);
+        Due.is("place 1, and 0", y.price(), 1);
+        y.with(Player.BASE, 29);
+        Due.is("place 2, and 1", y.price(), 1);
+    }
+
     private static void bound() {
         Due.sentence("4 A BOUND becomes v: which it was. BAD.");
         for (int instrument = 0; instrument < 5; instrument++) {
@@ -682,6 +732,8 @@ public final class CallsTest {
         drop();
         dropPinned();
         dropUnlinks();
+        dropAsIfItNeverCame();
+        dropsItsStates();
         bound();
         boundOfOthers();
         pin();

@@ -505,10 +505,14 @@ public final class InstrumentsTest {
             Due.is("with no MOVE", x.step(1, from, x.find(2, 0, -1)), 6 + 2);
         }
         for (int gap = 39; gap <= 41; gap++) {
-            Player left = new Player(STICKS).add(0, 10, 60, 70).add(gap, 10, 56, 70);
-            Due.is("of both, HAND 0 in " + gap, left.step(0, 0, 0), gap < 40 ? NONE : 4);
-            Player right = new Player(STICKS).add(0, 10, 60, 70).add(gap, 10, 60, 74);
-            Due.is("of both, HAND 1 in " + gap, right.step(0, 0, 0), gap < 40 ? NONE : 4);
+            for (int aside = 0; aside < 4; aside++) {
+                Player left = new Player(STICKS).add(0, 10, 60, 70).add(gap, 10, 56, 70 + aside);
+                Due.is("of both, HAND 0 in " + gap, left.step(0, 0, 0), gap < 40 ? NONE : 4 + aside);
+                Player right = new Player(STICKS).add(0, 10, 60, 70).add(gap, 10, 60 - aside, 74);
+                Due.is("of both, HAND 1 in " + gap, right.step(0, 0, 0), gap < 40 ? NONE : 4 + aside);
+            }
+            Player both = new Player(STICKS).add(0, 10, 60, 70).add(gap, 10, 56, 74);
+            Due.is("of both, each in " + gap, both.step(0, 0, 0), gap < 40 ? NONE : 8);
         }
     }
 

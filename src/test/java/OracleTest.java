@@ -479,7 +479,7 @@ public final class OracleTest {
 
     private static final class Run {
         final Random random;
-        final PlaySpans x;
+        final Player x;
         final Model m;
         final int instrument, spread, center, pace, mostEvents;
         final boolean gentle;
@@ -489,7 +489,7 @@ public final class OracleTest {
         Run(int seed) {
             random = new Random(seed);
             instrument = seed % 5;
-            x = new PlaySpans(instrument);
+            x = new Player(instrument);
             m = new Model(instrument);
             spread = 1 + random.nextInt(30);
             // In gentle runs hardly anything is forbidden, so that long rows have many WAYS.
@@ -584,23 +584,35 @@ public final class OracleTest {
             due(name + calls + " ways(" + most + ")", x.ways(most), m.ways(most));
         }
 
+        boolean mayAsk(int more) {
+            return x.calls() + more <= Player.MOST_CALLS;
+        }
+
+        /** As much as the object may be asked, beginning with any EVENT. */
         void everything() {
-            for (int i = 0; i < m.events.size(); i++) {
+            int size = m.events.size();
+            int first = size == 0 ? 0 : random.nextInt(size);
+            for (int n = 0; n < size && mayAsk(10); n++) {
+                int i = (first + n) % size;
                 due(name + "end way(" + i + ")", x.way(i), m.way(i));
                 due(name + "end states(" + i + ")", x.states(i), m.states(i));
-                List<State> here = m.list(i);
-                List<State> there = m.next(i) < 0 ? List.of() : m.list(m.next(i));
-                for (int k = 0; k < here.size(); k++) {
-                    for (int what = 0; what < 3; what++) {
-                        due(name + "end state(" + i + ", " + k + ", " + what + ")", x.state(i, k, what), m.state(i, k, what));
-                    }
-                    for (int l = 0; l < there.size(); l++) {
-                        due(name + "end step(" + i + ", " + k + ", " + l + ")", x.step(i, k, l),
-                                m.stepping(i, here.get(k), m.next(i), there.get(l)));
-                    }
-                }
                 for (int what = 0; what < 8; what++) {
                     due(name + "end about(" + i + ", " + what + ")", x.about(i, what), m.about(i, what));
+                }
+                everyState(i);
+            }
+        }
+
+        void everyState(int i) {
+            List<State> here = m.list(i);
+            List<State> there = m.next(i) < 0 ? List.of() : m.list(m.next(i));
+            for (int k = 0; k < here.size() && mayAsk(3); k++) {
+                for (int what = 0; what < 3; what++) {
+                    due(name + "end state(" + i + ", " + k + ", " + what + ")", x.state(i, k, what), m.state(i, k, what));
+                }
+                for (int l = 0; l < there.size() && mayAsk(1); l++) {
+                    due(name + "end step(" + i + ", " + k + ", " + l + ")", x.step(i, k, l),
+                            m.stepping(i, here.get(k), m.next(i), there.get(l)));
                 }
             }
         }
@@ -619,7 +631,8 @@ public final class OracleTest {
         }
 
         void play() {
-            for (calls = 0; calls < 90; calls++) {
+            // The rest of what may be asked is for the end.
+            for (calls = 0; calls < 90 && mayAsk(112); calls++) {
                 int die = random.nextInt(20);
                 if (m.events.size() < mostEvents && die < 9) event();
                 else if (die < 10) due(name + calls + " drop()", x.drop(), m.drop());
@@ -629,8 +642,8 @@ public final class OracleTest {
                 else whole();
             }
             whole();
-            everything();
             enumerate();
+            everything();
         }
     }
 

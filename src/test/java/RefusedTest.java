@@ -87,12 +87,17 @@ public final class RefusedTest {
         List<Integer> seen = new ArrayList<>();
         int size = x.told(0);
         int last = size == 0 ? 0 : x.about(size - 1, 1);
+        seen.add(x.bound(MOVE, 0));
         for (int time = last; time <= last + 11; time++) {
-            seen.add(x.playBy(time % 2, time, 10, 60));
-            seen.add(x.play(time, 10, 60));
+            seen.add(x.playBy(RIGHT, time, 10, 60));
+            seen.add(x.playBy(LEFT, time, 10, 60));
         }
+        int more = x.told(0);
         seen.add(x.price());
-        while (x.told(0) > Math.max(1, size - 1)) {
+        for (int i = Math.max(0, size - 4); i < more; i++) {
+            seen.add(x.step(i, 0, 0));
+        }
+        for (int i = more; i > Math.max(1, size - 1); i--) {
             seen.add(x.drop());
         }
         seen.add(x.pin(0, 1));
@@ -106,9 +111,12 @@ public final class RefusedTest {
             Player asked = past.get();
             Due.is(what, call.applyAsInt(asked), want);
             Due.holds(what + " changes nothing", look(asked, part).equals(look(past.get(), part)));
+            // What price() found may be kept inside: that must not be spoilt either.
+            Player known = past.get();
+            known.price();
+            call.applyAsInt(known);
+            Due.holds(what + " changes nothing known", look(known, part).equals(look(past.get(), part)));
             Player later = past.get();
-            // What price() found is kept: the call must not spoil that either.
-            later.price();
             call.applyAsInt(later);
             Due.holds(what + " changes nothing later", goOn(later, part).equals(goOn(past.get(), part)));
         }
